@@ -33,6 +33,7 @@ final class Model {
     // ---- texts
 
     static final class Fault extends RuntimeException {
+        private static final long serialVersionUID = 1;
         final int kind;
         final int at;
         Fault(int kind, int at) { super(null, null, false, false); this.kind = kind; this.at = at; }

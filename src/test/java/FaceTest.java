@@ -1,0 +1,74 @@
+import java.lang.reflect.Constructor;
+import java.lang.reflect.Field;
+import java.lang.reflect.Method;
+import java.lang.reflect.Modifier;
+import java.util.HashSet;
+import java.util.Set;
+import java.util.TreeSet;
+
+/** The face of the document and nothing else, as LANGUAGE.md's rules 1 and 5 want it. */
+public final class FaceTest {
+    private static final String FACE = "int feed 5,int drawer 1,int law 1,int work 1,int page 1,int fault 0,int undo 0,int told 1,"
+        + "int life 2,int facts 1,int wrong 1,int would 5,long loss 1,long cost 2,long risk 1,long saves 2,int first 0,int lacking 0,"
+        + "int signed 0,int stale 1,long best 2,int bestIn 2,int often 2,long yearly 4,int brings 6,int says 5,int line 4,int room 2,"
+        + "int lines 3,int apart 2,int twins 0,long written 1,int whose 0,long ahead 2,long lives 3,int oldest 0,int chain 2,int due 2,"
+        + "int news 1,long expects 3,int worst 0,int years 3,int span 5,int image 0,int restore 0,int status 1,int count 1";
+    private static final Check CHECK = new Check();
+
+    public static void main(String[] args) {
+        CHECK.part("face");
+        Set<String> want = new TreeSet<>();
+        for (String m : FACE.split(",")) want.add(m);
+        Set<String> got = new TreeSet<>();
+        Set<String> names = new HashSet<>();
+        for (Method m : LifeDrawer.class.getDeclaredMethods()) {
+            if (Modifier.isPublic(m.getModifiers())) {
+                got.add(m.getReturnType() + " " + m.getName() + " " + m.getParameterCount());
+                names.add(m.getName());
+            }
+        }
+        yes("methods " + got, got.equals(want));
+        CHECK.due("methods", names.size(), 47);
+        yes("public and final", Modifier.isPublic(LifeDrawer.class.getModifiers()) && Modifier.isFinal(LifeDrawer.class.getModifiers()));
+        Constructor<?>[] made = LifeDrawer.class.getDeclaredConstructors();
+        yes("one constructor", made.length == 1 && made[0].getParameterCount() == 0 && Modifier.isPublic(made[0].getModifiers()));
+        for (Method m : LifeDrawer.class.getDeclaredMethods()) {
+            int mods = m.getModifiers();
+            yes(m.getName() + " is public or private", Modifier.isPublic(mods) || Modifier.isPrivate(mods));
+        }
+        for (Field f : LifeDrawer.class.getDeclaredFields()) {
+            int mods = f.getModifiers();
+            yes(f.getName() + " is private", Modifier.isPrivate(mods) || f.getName().equals("NONE"));
+            yes(f.getName() + " is final if static", Modifier.isFinal(mods) || !Modifier.isStatic(mods));
+        }
+        int fields = inside(LifeDrawer.class, names);
+        CHECK.due("fields of the class within twenty", Math.max(20, fields), 20);
+        Class<?>[] classes = LifeDrawer.class.getDeclaredClasses();
+        CHECK.due("classes within twelve", Math.max(12, 1 + classes.length), 12);
+        for (Class<?> c : classes) {
+            int mods = c.getModifiers();
+            yes(c.getName() + " is static, not public", Modifier.isStatic(mods) && !Modifier.isPublic(mods) && !Modifier.isProtected(mods));
+            CHECK.due("fields of " + c.getName() + " within twenty", Math.max(20, inside(c, names)), 20);
+        }
+        CHECK.close("FaceTest");
+    }
+
+    private static int inside(Class<?> c, Set<String> names) {
+        int fields = 0;
+        for (Field f : c.getDeclaredFields()) {
+            if (!Modifier.isStatic(f.getModifiers())) fields++;
+            else yes(c.getName() + "." + f.getName() + " is final", Modifier.isFinal(f.getModifiers()));
+        }
+        for (Method m : c.getDeclaredMethods()) {
+            if (c != LifeDrawer.class || Modifier.isPrivate(m.getModifiers())) {
+                yes(c.getName() + "." + m.getName() + " bears no public name", !names.contains(m.getName()));
+            }
+            yes(m.getName() + " takes seven at most", m.getParameterCount() <= 7);
+        }
+        return fields;
+    }
+
+    private static void yes(String what, boolean so) {
+        CHECK.due(what, so ? 1 : 0, 1);
+    }
+}
