@@ -24,9 +24,9 @@ public final class LifeDrawer {
     private static final int IMAGES_MOST = 3;
     private static final int PLAN_MOST = 3;
     private static final int OFTEN_MOST = 30;
-    private static final int CENTS_MOST = 999;
+    private static final int PRICE_MOST = 999;
     private static final int ROOM_MOST = 200;
-    private static final int SIXTEEN = 16;
+    private static final int RUMOUR_ODDS = 16;
     private static final long ODDS = 64;
     private static final long RISK_BELOW = ODDS * ODDS;
 
@@ -109,7 +109,7 @@ public final class LifeDrawer {
             return tape.fault - FAULT_LESS;
         }
         here.keep();
-        work.perform(desk, here.now);
+        work.perform(desk, here.now, 0, work.size, 0);
         refusedSteps = work.refused;
         plan.forget();
         return work.done;
@@ -343,18 +343,20 @@ public final class LifeDrawer {
     public long best(int n, int part) throws IllegalArgumentException {
         needWithin(n, 1, PLAN_MOST);
         needPart(part);
-        return termOf(plan.leastLoss(here.now, n), 1L << 6 * (n + 1), part);
+        plan.prepare(here.now, n);
+        return termOf(plan.leastLoss(), 1L << 6 * (n + 1), part);
     }
 
     public int bestIn(int n, int k) throws IllegalArgumentException {
         needWithin(n, 1, PLAN_MOST);
         needWithin(k, 0, n - 1);
-        return plan.writtenIn(here.now, n, k);
+        plan.prepare(here.now, n);
+        return plan.writtenIn(k);
     }
 
     public int often(int life, int c) throws NoSuchElementException, IllegalArgumentException {
         needLife(life);
-        needWithin(c, 0, CENTS_MOST);
+        needWithin(c, 0, PRICE_MOST);
         long risks = 0;
         long least = 0;
         int which = 0;
@@ -371,7 +373,7 @@ public final class LifeDrawer {
 
     public long yearly(int life, int c, int k, int part) throws NoSuchElementException, IllegalArgumentException {
         needLife(life);
-        needWithin(c, 0, CENTS_MOST);
+        needWithin(c, 0, PRICE_MOST);
         needWithin(k, 1, OFTEN_MOST);
         needPart(part);
         long all = renewalPrice(life, c);
@@ -384,21 +386,21 @@ public final class LifeDrawer {
     // ---- a rumour
 
     public int brings(int t, int b, int v, int x, int y, int way) throws IllegalArgumentException {
-        needWithin(t, 0, SIXTEEN);
+        needWithin(t, 0, RUMOUR_ODDS);
         needRumour(b, v, x, y);
         needWithin(way, 0, 2);
         return meanOf(t, b, v, x, y, way);
     }
 
     public int says(int t, int b, int v, int x, int y) throws IllegalArgumentException {
-        needWithin(t, 0, SIXTEEN);
+        needWithin(t, 0, RUMOUR_ODDS);
         needRumour(b, v, x, y);
         return bestWay(t, b, v, x, y);
     }
 
     public int line(int b, int v, int x, int y) throws IllegalArgumentException {
         needRumour(b, v, x, y);
-        for (int t = 0; t <= SIXTEEN; t++) {
+        for (int t = 0; t <= RUMOUR_ODDS; t++) {
             if (bestWay(t, b, v, x, y) == 0) {
                 return t;
             }
@@ -576,10 +578,10 @@ public final class LifeDrawer {
     }
 
     private void needRumour(int b, int v, int x, int y) {
-        needWithin(b, 0, SIXTEEN);
-        needWithin(v, 0, CENTS_MOST);
-        needWithin(x, 0, CENTS_MOST);
-        needWithin(y, 0, CENTS_MOST);
+        needWithin(b, 0, RUMOUR_ODDS);
+        needWithin(v, 0, PRICE_MOST);
+        needWithin(x, 0, PRICE_MOST);
+        needWithin(y, 0, PRICE_MOST);
     }
 
     private void openText(int n, int most) {
@@ -610,9 +612,9 @@ public final class LifeDrawer {
 
     private static int meanOf(int t, int b, int v, int x, int y, int way) {
         switch (way) {
-            case 0: return SIXTEEN * (t * v - (SIXTEEN - t) * x);
-            case 1: return SIXTEEN * (t * v - (SIXTEEN - t) * y);
-            default: return t * (SIXTEEN - b) * v;
+            case 0: return RUMOUR_ODDS * (t * v - (RUMOUR_ODDS - t) * x);
+            case 1: return RUMOUR_ODDS * (t * v - (RUMOUR_ODDS - t) * y);
+            default: return t * (RUMOUR_ODDS - b) * v;
         }
     }
 
@@ -1165,8 +1167,8 @@ public final class LifeDrawer {
 
         private static int joined(int what, int one, int other) {
             switch (what) {
-                case LEAST: return Math.min(one, other);
-                case MOST: return Math.max(one, other);
+                case LEAST: return one < other ? one : other;
+                case MOST: return one > other ? one : other;
                 case PLUS: return one + other;
                 case LESS: return one - other;
                 case TIMES: return one * other;
@@ -1470,6 +1472,9 @@ public final class LifeDrawer {
 
         boolean read(Tape tape, int lives) {
             size = 0;
+            begun = 0;
+            done = 0;
+            refused = 0;
             return readSteps(tape, lives, 0);
         }
 
@@ -1511,20 +1516,13 @@ public final class LifeDrawer {
             return true;
         }
 
-        void perform(Desk desk, State state) {
-            begun = 0;
-            done = 0;
-            refused = 0;
-            performSteps(desk, state, 0, size, 0);
-        }
-
-        private void performSteps(Desk desk, State state, int from, int to, int open) {
+        void perform(Desk desk, State state, int from, int to, int open) {
             int at = from;
             while (at < to && at < TEXT_MOST && begun < BEGUN_MOST && open <= OPEN_MOST) {
                 begun++;
                 if (kind[at] == AGAIN) {
                     for (int i = 0; i < number[at] && begun < BEGUN_MOST; i++) {
-                        performSteps(desk, state, at + 1, end[at], open + 1);
+                        perform(desk, state, at + 1, end[at], open + 1);
                     }
                     at = Math.max(at + 1, end[at]);
                 } else {
@@ -1572,21 +1570,21 @@ public final class LifeDrawer {
             plannedWeeks = 0;
         }
 
-        long leastLoss(State state, int n) {
-            make(state, n);
+        /** By 64 to as many as there are weeks, and 1. */
+        long leastLoss() {
             return planned >> KEY_BITS;
         }
 
-        int writtenIn(State state, int n, int k) {
-            make(state, n);
-            return (int) (planned >> keyShift(k)) & 255;
+        int writtenIn(int week) {
+            return (int) (planned >> keyShift(week)) & 255;
         }
 
         private static int keyShift(int week) {
             return LIVES_MOST * (PLAN_MOST - 1 - week);
         }
 
-        private void make(State state, int n) {
+        /** What was prepared stays, till it is to be forgotten: it is asked for part by part. */
+        void prepare(State state, int n) {
             if (plannedWeeks == n) {
                 return;
             }

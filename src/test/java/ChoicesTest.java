@@ -135,6 +135,12 @@ public final class ChoicesTest {
         Check.law(x, "dead * 32 + years / 40 + worth / 20");
         // 32 and 2 and 1 of 64 in each week: 8 of 64 of 3 times 20 times 35 of 64
         CHECK.fraction("as they are now", x.yearly(1, 0, 9, 0), x.yearly(1, 0, 9, 1), 525, 128);
+        LifeDrawer year = Check.with("life 0 64 64 1;wrong 1;fact 0 0 51;fact 0 0 52;");
+        Check.work(year, "again 17 [again 3 [week;];];");
+        Check.law(year, "years + facts");
+        CHECK.fraction("in week 51", year.yearly(0, 0, 2, 0), year.yearly(0, 0, 2, 1), 0, 1);
+        Check.work(year, "week;");
+        CHECK.fraction("in week 52", year.yearly(0, 0, 2, 0), year.yearly(0, 0, 2, 1), 1, 1);
         CHECK.noSuch("yearly(3, ..)", () -> x.yearly(3, 0, 1, 0));
         CHECK.noSuch("yearly(-1, ..)", () -> x.yearly(-1, 0, 0, 0));
         CHECK.bad("c -1", () -> x.yearly(0, -1, 1, 0));

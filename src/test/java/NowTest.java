@@ -160,6 +160,13 @@ public final class NowTest {
         CHECK.fraction("of a dead one", x.cost(0, 0), x.cost(0, 1), 0, 1);
         Check.law(x, "dead * 7");
         CHECK.fraction("by a dead one", x.cost(1, 0), x.cost(1, 1), 105, 16);
+        LifeDrawer week = Check.with("life 1 64 64 1;has 0 3;fact 0 0 1;wrong 1;");
+        Check.law(week, "facts");
+        CHECK.fraction("facts that change in the next week", week.cost(0, 0), week.cost(0, 1), 0, 1);
+        CHECK.due("nor are they stale", week.stale(1), 0);
+        CHECK.fraction("nor saved", week.saves(0, 0), week.saves(0, 1), 0, 1);
+        Check.work(week, "die 0;");
+        CHECK.fraction("nor lost", week.loss(0), week.loss(1), 0, 1);
         CHECK.noSuch("cost(3, 0)", () -> x.cost(3, 0));
         CHECK.noSuch("cost(-1, 5)", () -> x.cost(-1, 5));
         CHECK.bad("cost(0, 2)", () -> x.cost(0, 2));
