@@ -13,7 +13,13 @@ public final class FaceTest {
         + "int signed 0,int stale 1,long best 2,int bestIn 2,int often 2,long yearly 4,int brings 6,int says 5,int line 4,int room 2,"
         + "int lines 3,int apart 2,int twins 0,long written 1,int whose 0,long ahead 2,long lives 3,int oldest 0,int chain 2,int due 2,"
         + "int news 1,long expects 3,int worst 0,int years 3,int span 5,int image 0,int restore 0,int status 1,int count 1";
+    private static final Set<String> BAD = Set.of("drawer", "law", "work", "page", "told", "would", "loss", "risk", "stale", "best", "bestIn",
+        "brings", "says", "line", "room", "apart", "ahead", "years", "span");
+    private static final Set<String> NO_SUCH = Set.of("facts", "wrong", "written", "news");
+    private static final Set<String> BOTH = Set.of("life", "cost", "saves", "often", "yearly", "lines", "lives", "chain", "due", "expects");
     private static final Check CHECK = new Check();
+    private static final int SOME_FIELDS = 24;
+    private static final int SOME_CLASSES = 16;
 
     public static void main(String[] args) {
         CHECK.part("face");
@@ -25,6 +31,7 @@ public final class FaceTest {
             if (Modifier.isPublic(m.getModifiers())) {
                 got.add(m.getReturnType() + " " + m.getName() + " " + m.getParameterCount());
                 names.add(m.getName());
+                yes("what " + m.getName() + " throws", thrown(m).equals(told(m.getName())));
             }
         }
         yes("methods " + got, got.equals(want));
@@ -42,15 +49,28 @@ public final class FaceTest {
             yes(f.getName() + " is final if static", Modifier.isFinal(mods) || !Modifier.isStatic(mods));
         }
         int fields = inside(LifeDrawer.class, names);
-        CHECK.due("fields of the class within twenty", Math.max(20, fields), 20);
+        CHECK.due("some twenty fields of the class", Math.max(SOME_FIELDS, fields), SOME_FIELDS);
         Class<?>[] classes = LifeDrawer.class.getDeclaredClasses();
-        CHECK.due("classes within twelve", Math.max(12, 1 + classes.length), 12);
+        CHECK.due("some twelve classes", Math.max(SOME_CLASSES, 1 + classes.length), SOME_CLASSES);
         for (Class<?> c : classes) {
             int mods = c.getModifiers();
             yes(c.getName() + " is static, not public", Modifier.isStatic(mods) && !Modifier.isPublic(mods) && !Modifier.isProtected(mods));
-            CHECK.due("fields of " + c.getName() + " within twenty", Math.max(20, inside(c, names)), 20);
+            CHECK.due("some twenty fields of " + c.getName(), Math.max(SOME_FIELDS, inside(c, names)), SOME_FIELDS);
         }
         CHECK.close("FaceTest");
+    }
+
+    private static Set<String> thrown(Method m) {
+        Set<String> all = new TreeSet<>();
+        for (Class<?> c : m.getExceptionTypes()) all.add(c.getSimpleName());
+        return all;
+    }
+
+    private static Set<String> told(String name) {
+        Set<String> all = new TreeSet<>();
+        if (BAD.contains(name) || BOTH.contains(name)) all.add("IllegalArgumentException");
+        if (NO_SUCH.contains(name) || BOTH.contains(name)) all.add("NoSuchElementException");
+        return all;
     }
 
     private static int inside(Class<?> c, Set<String> names) {
@@ -60,7 +80,7 @@ public final class FaceTest {
             else yes(c.getName() + "." + f.getName() + " is final", Modifier.isFinal(f.getModifiers()));
         }
         for (Method m : c.getDeclaredMethods()) {
-            if (c != LifeDrawer.class || Modifier.isPrivate(m.getModifiers())) {
+            if (Modifier.isPrivate(m.getModifiers())) {
                 yes(c.getName() + "." + m.getName() + " bears no public name", !names.contains(m.getName()));
             }
             yes(m.getName() + " takes seven at most", m.getParameterCount() <= 7);

