@@ -20,6 +20,14 @@ final class Check {
         }
     }
 
+    void said(String what, String got, String want) {
+        asked++;
+        if (!got.equals(want)) {
+            wrong++;
+            System.out.println(part + ": " + what + " answered " + got + ", said is " + want);
+        }
+    }
+
     void noSuch(String what, Runnable call) {
         throwsOne(what, call, NoSuchElementException.class);
     }

@@ -144,6 +144,10 @@ final class Edges {
         bounds(promise, words, FULL, call, least, most, "bad");
     }
 
+    int wrongAnswers() {
+        return wrong;
+    }
+
     /** Ends the program with 1 if an answer was wrong, or edges lack of what the document names. */
     void close() {
         label = "edges";
