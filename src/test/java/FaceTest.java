@@ -1,12 +1,19 @@
+import java.io.IOException;
 import java.lang.reflect.Constructor;
 import java.lang.reflect.Field;
 import java.lang.reflect.Method;
 import java.lang.reflect.Modifier;
+import java.nio.file.Files;
+import java.nio.file.Path;
 import java.util.HashSet;
+import java.util.Map;
 import java.util.Set;
+import java.util.TreeMap;
 import java.util.TreeSet;
+import java.util.regex.Matcher;
+import java.util.regex.Pattern;
 
-/** The face of the document and nothing else, as LANGUAGE.md's rules 1 and 5 want it. */
+/** The face of the document and nothing else, and the rules of LANGUAGE.md that reflection or the source's words show. */
 public final class FaceTest {
     private static final String FACE = "int feed 5,int drawer 1,int law 1,int work 1,int page 1,int fault 0,int undo 0,int told 1,"
         + "int life 2,int facts 1,int wrong 1,int would 5,long loss 1,long cost 2,long risk 1,long saves 2,int first 0,int lacking 0,"
@@ -20,8 +27,17 @@ public final class FaceTest {
     private static final Check CHECK = new Check();
     private static final int SOME_FIELDS = 24;
     private static final int SOME_CLASSES = 16;
+    private static final int SOME_LINES = 60;
 
-    public static void main(String[] args) {
+    /** By the rule: what no line of the source may have, its comments and texts left out. */
+    private static final Map<Integer, String> RULED_OUT = new TreeMap<>(Map.of(
+        2, "->|::|\\bvar\\b",
+        3, "\\b(double|float|Object|Map|Set|Optional)\\b|\\[\\]\\[\\]",
+        4, "Exact\\(|\\bimport (?!java\\.util\\.(Arrays|NoSuchElementException);)|\\bSystem\\.(?!arraycopy\\()|\\bjava\\.(?!util\\.)",
+        6, "\\b(try|catch|finally|synchronized|assert|extends|getMessage|equals|hashCode|toString)\\b",
+        13, "\\b(Random|Thread|nanoTime|currentTimeMillis|File|volatile|transient|native)\\b"));
+
+    public static void main(String[] args) throws IOException {
         CHECK.part("face");
         Set<String> want = new TreeSet<>();
         for (String m : FACE.split(",")) want.add(m);
@@ -57,7 +73,33 @@ public final class FaceTest {
             yes(c.getName() + " is static, not public", Modifier.isStatic(mods) && !Modifier.isPublic(mods) && !Modifier.isProtected(mods));
             CHECK.due("some twenty fields of " + c.getName(), Math.max(SOME_FIELDS, inside(c, names)), SOME_FIELDS);
         }
+        source(Files.readString(Path.of("src", "main", "java", "LifeDrawer.java")));
         CHECK.close("FaceTest");
+    }
+
+    private static void source(String whole) {
+        String plain = whole.replaceAll("\"[^\"\\n]*\"", "\"\"").replaceAll("(?s)/\\*.*?\\*/", "").replaceAll("//[^\\n]*", "");
+        RULED_OUT.forEach((rule, words) -> {
+            Matcher found = Pattern.compile(words).matcher(plain);
+            yes("rule " + rule + " rules out what the source has" + (found.find() ? ": " + found.group() : ""), !found.reset().find());
+        });
+        yes("rule 1: no package", !Pattern.compile("(?m)^package ").matcher(plain).find());
+        yes("rule 3: signs 1 to 127", whole.chars().allMatch(c -> c > 0 && c < 128));
+        longMethods(whole.split("\n"));
+    }
+
+    /** A method begins and ends at its own depth of blanks. */
+    private static void longMethods(String[] lines) {
+        int methods = 0;
+        for (int i = 0; i < lines.length; i++) {
+            if (!lines[i].matches("( {4}| {8})(?!static final class)\\w.*\\).*\\{")) continue;
+            String end = lines[i].replaceAll("\\S.*", "") + "}";
+            int last = i;
+            while (last + 1 < lines.length && !lines[last].equals(end)) last++;
+            methods++;
+            CHECK.due("rule 11: lines of" + lines[i].strip(), Math.max(SOME_LINES, last - i + 1), SOME_LINES);
+        }
+        yes("methods were seen: " + methods, methods > 47);
     }
 
     private static Set<String> thrown(Method m) {
